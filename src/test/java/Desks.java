@@ -1,0 +1,70 @@
+import java.nio.charset.StandardCharsets;
+
+/** Brings a desk into a state, and looks at the state it has. */
+final class Desks {
+    private Desks() {
+    }
+
+    static CourierDesk withTape(String text) {
+        CourierDesk desk = new CourierDesk();
+        lay(desk, text);
+        return desk;
+    }
+
+    static void lay(CourierDesk desk, String text) {
+        lay(desk, text.getBytes(StandardCharsets.ISO_8859_1));
+    }
+
+    /** The TAPE becomes these bytes. */
+    static void lay(CourierDesk desk, byte[] bytes) {
+        desk.end(0);
+        for (int at = 0; at < bytes.length; at += 20) {
+            desk.feed(four(bytes, at), four(bytes, at + 4), four(bytes, at + 8),
+                    four(bytes, at + 12), four(bytes, at + 16));
+        }
+        desk.end(bytes.length);
+    }
+
+    private static int four(byte[] bytes, int at) {
+        int all = 0;
+        for (int i = at; i < at + 4; i++) {
+            all = all << 8 | (i < bytes.length ? bytes[i] & 255 : 0);
+        }
+        return all;
+    }
+
+    static CourierDesk withRack(int... numbers) {
+        CourierDesk desk = new CourierDesk();
+        for (int i = 0; i < numbers.length; i++) {
+            desk.insert(i, numbers[i]);
+        }
+        return desk;
+    }
+
+    static void pushAll(CourierDesk desk, int... numbers) {
+        for (int number : numbers) {
+            desk.push(number);
+        }
+    }
+
+    static String out(CourierDesk desk) {
+        StringBuilder text = new StringBuilder();
+        int length = desk.octet(-1);
+        for (int i = 0; i < length; i++) {
+            text.append((char) desk.octet(i));
+        }
+        return text.toString();
+    }
+
+    static void rackIs(Due due, String after, CourierDesk desk, int... numbers) {
+        due.is(after + ": count(0)", desk.count(0), numbers.length);
+        for (int i = 0; i < numbers.length; i++) {
+            due.is(after + ": get(" + i + ")", desk.get(i), numbers[i]);
+        }
+    }
+
+    static void outIs(Due due, String after, CourierDesk desk, String want) {
+        String got = out(desk);
+        due.holds(after + ": OUT is \"" + got + "\", due is \"" + want + "\":", got.equals(want));
+    }
+}
