@@ -28,6 +28,11 @@ final class TellTest {
         due.is("tell(1, 0)", Desks.withRack(4, 6).tell(1, 0), 4);
         due.is("tell(0, 0) of MIN", Desks.withRack(MIN).tell(0, 0), MIN);
         due.is("tell(1, 0) of MAX", Desks.withRack(MAX).tell(1, 0), MAX);
+        for (int first : new int[] {-8, 8}) {
+            CourierDesk edge = Desks.withRack(first, 0, -first);
+            due.is("tell(0, 0), an edge", edge.tell(0, 0), 8);
+            due.is("tell(1, 0), an edge", edge.tell(1, 0), -8);
+        }
         CourierDesk wide = Desks.withRack(0, MIN, MAX, 1);
         due.is("tell(0, 0)", wide.tell(0, 0), MAX);
         due.is("tell(1, 0)", wide.tell(1, 0), MIN);
@@ -55,6 +60,9 @@ final class TellTest {
         due.is("tell(3, 0)", desk.tell(3, 0), 0);
         desk.size(3);
         due.is("tell(3, 0), it went", desk.tell(3, 0), 1);
+        CourierDesk fronts = Desks.withRack(1, 2, 3);
+        Desks.pushAll(fronts, 1, 8);
+        due.is("tell(3, 0), both fronts", fronts.tell(3, 0), 0);
     }
 
     private static void thePileInTheRack(Due due) {
@@ -79,6 +87,10 @@ final class TellTest {
         Desks.pushAll(desk, 2, 1);
         due.is("tell(4, 0)", desk.tell(4, 0), -1);
         due.is("tell(5, 0)", desk.tell(5, 0), -1);
+        CourierDesk front = Desks.withRack(1, 2, 3, 4);
+        Desks.pushAll(front, 9, 3, 4);
+        due.is("tell(4, 0), another front", front.tell(4, 0), -1);
+        due.is("tell(5, 0), another front", front.tell(5, 0), -1);
         CourierDesk cut = Desks.withRack(1, 2, 3);
         Desks.pushAll(cut, 2, 3);
         cut.size(2);

@@ -14,6 +14,7 @@ final class TurnTest {
 
     private static void turnRound(Due due) {
         CourierDesk desk = Desks.withRack(1, 2, 3, 4);
+        desk.push(6);
         due.is("turn(0, 9)", desk.turn(0, 9), 4);
         Desks.rackIs(due, "turn(0, 9)", desk, 4, 3, 2, 1);
         desk.remove(0);
@@ -42,6 +43,7 @@ final class TurnTest {
 
     private static void turnAllIntoOne(Due due) {
         CourierDesk desk = Desks.withRack(1, 2, 3, 4);
+        desk.push(6);
         desk.size(3);
         due.is("turn(2, -8)", desk.turn(2, -8), 3);
         Desks.rackIs(due, "turn(2, -8)", desk, -8, -8, -8);
