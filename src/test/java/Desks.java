@@ -1,7 +1,10 @@
 import java.nio.charset.StandardCharsets;
+import java.util.zip.CRC32C;
 
 /** Brings a desk into a state, and looks at the state it has. */
 final class Desks {
+    private static final long[] CHECKS = checksOfSingleBytes();
+
     private Desks() {
     }
 
@@ -64,7 +67,54 @@ final class Desks {
     }
 
     static void outIs(Due due, String after, CourierDesk desk, String want) {
-        String got = out(desk);
-        due.holds(after + ": OUT is \"" + got + "\", due is \"" + want + "\":", got.equals(want));
+        due.same(after + ": OUT", out(desk), want);
+    }
+
+    static void tapeIs(Due due, String after, CourierDesk desk, String want) {
+        due.same(after + ": the TAPE", tape(desk), want);
+    }
+
+    /** Each byte is known by its CHECK, so that nothing is changed by looking. */
+    static String tape(CourierDesk desk) {
+        StringBuilder text = new StringBuilder();
+        int length = desk.count(2);
+        for (int i = 0; i < length; i++) {
+            text.append(byteOf(desk.check(i, i + 1)));
+        }
+        return text.toString();
+    }
+
+    private static char byteOf(long check) {
+        for (char one = 0; one < 256; one++) {
+            if (CHECKS[one] == check) {
+                return one;
+            }
+        }
+        return '\uffff';
+    }
+
+    private static long[] checksOfSingleBytes() {
+        long[] checks = new long[256];
+        for (int one = 0; one < checks.length; one++) {
+            checks[one] = libraryCheck(Character.toString(one));
+        }
+        return checks;
+    }
+
+    static long libraryCheck(String text) {
+        CRC32C check = new CRC32C();
+        check.update(text.getBytes(StandardCharsets.ISO_8859_1));
+        return check.getValue();
+    }
+
+    /** The pile comes behind the rack and is told from there; the rack is then as it was. */
+    static void pileIs(Due due, String after, CourierDesk desk, int... numbers) {
+        due.is(after + ": count(1)", desk.count(1), numbers.length);
+        int before = desk.count(0);
+        desk.turn(3, 0);
+        for (int i = 0; i < numbers.length; i++) {
+            due.is(after + ": number " + i + " of the pile", desk.get(before + i), numbers[i]);
+        }
+        desk.size(before);
     }
 }

@@ -13,25 +13,16 @@ final class TapeTest {
         due.finish();
     }
 
-    private static String tape(CourierDesk desk) {
-        desk.words(0, 0, 0, true);
-        StringBuilder text = new StringBuilder();
-        for (int k = 0; k < desk.count(3); k++) {
-            desk.word(k);
-            text.append(Desks.out(desk));
-        }
-        return text.toString();
-    }
-
     private static void feedBringsTheHighestByteFirst(Due due) {
         CourierDesk desk = new CourierDesk();
         due.is("feed", desk.feed(0x01020304, 0x80FF007F, -1, 0x41424344, 0x10203040), 20);
         due.is("count(2)", desk.count(2), 20);
-        String want = "\u0001\u0002\u0003\u0004\u0080\u00ff\u0000\u007f\u00ff\u00ff\u00ff\u00ffABCD\u0010\u0020\u0030\u0040";
-        due.holds("the TAPE is as fed", tape(desk).equals(want));
+        String want = "\u0001\u0002\u0003\u0004\u0080\u00ff\u0000\u007f\u00ff\u00ff\u00ff\u00ffABCD"
+                + "\u0010\u0020\u0030\u0040";
+        due.holds("the TAPE is as fed", Desks.tape(desk).equals(want));
         due.is("feed again", desk.feed(0x61626364, 0, 0, 0, 0x65666768), 40);
-        due.holds("the TAPE goes on", tape(desk).startsWith(want + "abcd\0\0\0\0"));
-        due.holds("the TAPE ends as fed", tape(desk).endsWith("\0\0\0\0efgh"));
+        due.holds("the TAPE goes on", Desks.tape(desk).startsWith(want + "abcd\0\0\0\0"));
+        due.holds("the TAPE ends as fed", Desks.tape(desk).endsWith("\0\0\0\0efgh"));
     }
 
     private static void feedIsFullBeyond400(Due due) {
@@ -55,9 +46,9 @@ final class TapeTest {
         due.is("end(10)", desk.end(10), 10);
         due.is("end(4)", desk.end(4), 4);
         due.is("count(2)", desk.count(2), 4);
-        due.holds("the TAPE has its first four", tape(desk).equals("abcd"));
+        due.holds("the TAPE has its first four", Desks.tape(desk).equals("abcd"));
         desk.feed(0x41424344, 0, 0, 0, 0);
-        due.holds("what comes then stands behind", tape(desk).startsWith("abcdABCD\0"));
+        due.holds("what comes then stands behind", Desks.tape(desk).startsWith("abcdABCD\0"));
         due.is("end(0)", desk.end(0), 0);
         due.is("count(2)", desk.count(2), 0);
     }
@@ -68,7 +59,7 @@ final class TapeTest {
             due.is("end(" + n + ")", desk.end(n), Due.REFUSED);
             due.is("count(2)", desk.count(2), 3);
         }
-        due.holds("the TAPE stays", tape(desk).equals("abc"));
+        due.holds("the TAPE stays", Desks.tape(desk).equals("abc"));
     }
 
     private static void checkIsThatOfTheLibrary(Due due) {
