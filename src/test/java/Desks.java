@@ -1,9 +1,11 @@
 import java.nio.charset.StandardCharsets;
+import java.util.function.Supplier;
 import java.util.zip.CRC32C;
 
 /** Brings a desk into a state, and looks at the state it has. */
 final class Desks {
     private static final long[] CHECKS = checksOfSingleBytes();
+    private static final int ASKED_OF_ONE = 400;
 
     private Desks() {
     }
@@ -51,10 +53,23 @@ final class Desks {
     }
 
     static String out(CourierDesk desk) {
+        return outPart(desk, 0, desk.octet(-1));
+    }
+
+    private static String outPart(CourierDesk desk, int from, int to) {
         StringBuilder text = new StringBuilder();
-        int length = desk.octet(-1);
-        for (int i = 0; i < length; i++) {
+        for (int i = from; i < to; i++) {
             text.append((char) desk.octet(i));
+        }
+        return text.toString();
+    }
+
+    /** A long OUT, told by several equal desks, because one is good for 512 calls only. */
+    static String longOut(Supplier<CourierDesk> equalDesks) {
+        StringBuilder text = new StringBuilder();
+        int length = equalDesks.get().octet(-1);
+        for (int from = 0; from < length; from += ASKED_OF_ONE) {
+            text.append(outPart(equalDesks.get(), from, Math.min(length, from + ASKED_OF_ONE)));
         }
         return text.toString();
     }

@@ -8,6 +8,7 @@ import java.nio.file.Path;
 import java.util.Arrays;
 import java.util.Set;
 import java.util.TreeSet;
+import java.util.regex.Matcher;
 import java.util.regex.Pattern;
 
 /** The public face of the document, and those rules of LANGUAGE.md that can be seen from outside. */
@@ -22,6 +23,9 @@ final class FaceTest {
 
     private static final String[] RULED_OUT = {"\\bthrow\\b", "\\btry\\b", "\\bcatch\\b", "\\bsynchronized\\b",
         "\\bassert\\b", "->", "::", "\\bpackage\\b", "\\bvar\\b", "\\bString\\.format\\b", "[^\\x00-\\x7f]"};
+
+    private static final String LISTED = "System\\.arraycopy|Arrays\\.(copyOf|copyOfRange|fill)"
+            + "|(Math|Integer|Long)\\.(?!\\w*Exact$|random$)\\w+";
 
     public static void main(String[] args) throws IOException {
         Due due = new Due();
@@ -84,9 +88,18 @@ final class FaceTest {
         for (Class<?> one : inside) {
             due.holds(one + " is static", Modifier.isStatic(one.getModifiers()));
             due.holds(one + " is not public", (one.getModifiers() & (Modifier.PUBLIC | Modifier.PROTECTED)) == 0);
-            staticFieldsAreFinal(due, one);
+            keepsToTheLimits(due, one);
         }
-        staticFieldsAreFinal(due, CourierDesk.class);
+        keepsToTheLimits(due, CourierDesk.class);
+    }
+
+    private static void keepsToTheLimits(Due due, Class<?> one) {
+        staticFieldsAreFinal(due, one);
+        for (Method method : one.getDeclaredMethods()) {
+            due.holds(method + " takes at most seven parameters", method.getParameterCount() <= 7);
+        }
+        long fields = Arrays.stream(one.getDeclaredFields()).filter(f -> !Modifier.isStatic(f.getModifiers())).count();
+        due.holds(one + " has at most twenty fields beside its constants", fields <= 20);
     }
 
     private static void staticFieldsAreFinal(Due due, Class<?> one) {
@@ -105,6 +118,10 @@ final class FaceTest {
         for (String line : text.split("\\n")) {
             boolean asListed = line.matches("import java\\.util\\.(Arrays|ArrayList|List|Iterator);\\s*");
             due.holds("a listed import: " + line, !line.startsWith("import") || asListed);
+        }
+        Matcher library = Pattern.compile("\\b(System|Arrays|Math|Integer|Long)\\.(\\w+)").matcher(text);
+        while (library.find()) {
+            due.holds("listed in the library: " + library.group(), library.group().matches(LISTED));
         }
     }
 }

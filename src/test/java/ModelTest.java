@@ -5,6 +5,7 @@ import java.util.Random;
 final class ModelTest {
     private static final int RUNS = 3000;
     private static final int CALLS = 512;
+    private static final int MOST_CALLS_OF_A_STEP = 4;
     private static final int[] EDGES = {0, 1, -1, 2, 127, 128, 255, 399, 400, 401, 599, 600, 601,
         Integer.MIN_VALUE, Integer.MAX_VALUE};
 
@@ -23,9 +24,14 @@ final class ModelTest {
     public static void main(String[] args) {
         for (int run = 0; run < RUNS; run++) {
             ModelTest test = new ModelTest(run);
-            while (test.calls < CALLS) {
+            while (test.calls <= CALLS - MOST_CALLS_OF_A_STEP) {
                 test.step();
             }
+            // One call each, so that the run ends with the last call that is promised.
+            while (test.calls < CALLS) {
+                test.askStep();
+            }
+            test.due.is("calls of run " + run, test.calls, CALLS);
             test.due.finish();
         }
     }

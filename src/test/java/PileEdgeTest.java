@@ -79,8 +79,9 @@ final class PileEdgeTest {
     }
 
     /**
-     * The pile grows by one number a call, so no object has 600 before its 513th call, from where the document
-     * leaves all answers free; the sentence is kept to there all the same.
+     * The pile grows by one number a call, so no object has 600 within its 512 calls, and "what later calls answer
+     * is free". This is the only test that goes beyond them: the sentence is kept to all the same, and a push
+     * without room must not throw (LANGUAGE.md, rule 7).
      */
     private static void fullWith600(Due due) {
         due.says("Promise 12", "FULL with 600.");

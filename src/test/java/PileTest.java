@@ -3,7 +3,7 @@ final class PileTest {
     public static void main(String[] args) {
         Due due = new Due();
         pushCounts(due);
-        pushIsFullWith600(due);
+        pushUpToTheLastCall(due);
         popTakesTheTop(due);
         searchCountsFromTheTop(due);
         due.finish();
@@ -18,15 +18,14 @@ final class PileTest {
         due.is("the rack stays", desk.count(0), 0);
     }
 
-    /** Takes more than 512 calls, so the document leaves the answers free; the limit is tested all the same. */
-    private static void pushIsFullWith600(Due due) {
+    /** An object is good for 512 calls: the pile is never full in them. */
+    private static void pushUpToTheLastCall(Due due) {
         CourierDesk desk = new CourierDesk();
-        for (int n = 1; n <= 600; n++) {
+        for (int n = 1; n <= 510; n++) {
             due.is("push to " + n, desk.push(n), n);
         }
-        due.is("push beyond 600", desk.push(7), Due.FULL);
-        due.is("count(1)", desk.count(1), 600);
-        due.is("pop(true)", desk.pop(true), 600);
+        due.is("count(1)", desk.count(1), 510);
+        due.is("pop(true)", desk.pop(true), 510);
     }
 
     private static void popTakesTheTop(Due due) {

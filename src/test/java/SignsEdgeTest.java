@@ -40,10 +40,13 @@ final class SignsEdgeTest {
     }
 
     private static void longest(Due due, int length, boolean safe, boolean bare, String want) {
-        CourierDesk desk = Desks.withTape("\u00ff".repeat(length));
         String call = "write(" + safe + ", " + bare + ") of " + length;
-        due.is(call, desk.write(safe, bare), want.length());
-        Desks.outIs(due, call, desk, want);
+        String out = Desks.longOut(() -> {
+            CourierDesk desk = Desks.withTape("\u00ff".repeat(length));
+            due.is(call, desk.write(safe, bare), want.length());
+            return desk;
+        });
+        due.same(call + ": OUT", out, want);
     }
 
     private static void writeOfTheLongest(Due due) {

@@ -32,20 +32,24 @@ final class SignsTest {
     }
 
     private static void writeAtEveryLength(Due due) {
-        CourierDesk desk = new CourierDesk();
         for (int length : new int[] {0, 1, 2, 3, 4, 5, 6, 7, 100, 398, 399, 400}) {
-            byte[] bytes = sample(length);
-            Desks.lay(desk, bytes);
             for (int way = 0; way < 4; way++) {
-                boolean safe = (way & 1) != 0;
-                boolean bare = (way & 2) != 0;
-                String want = encoded(bytes, safe, bare);
-                String call = length + " bytes, write(" + safe + ", " + bare + ")";
-                due.is(call, desk.write(safe, bare), want.length());
-                Desks.outIs(due, call, desk, want);
-                due.is("count(2) stays", desk.count(2), length);
+                compareWrite(due, sample(length), (way & 1) != 0, (way & 2) != 0);
             }
         }
+    }
+
+    private static void compareWrite(Due due, byte[] bytes, boolean safe, boolean bare) {
+        String want = encoded(bytes, safe, bare);
+        String call = bytes.length + " bytes, write(" + safe + ", " + bare + ")";
+        String out = Desks.longOut(() -> {
+            CourierDesk desk = new CourierDesk();
+            Desks.lay(desk, bytes);
+            due.is(call, desk.write(safe, bare), want.length());
+            due.is("count(2) stays", desk.count(2), bytes.length);
+            return desk;
+        });
+        due.same(call + ": OUT", out, want);
     }
 
     private static void writeUsesEverySign(Due due) {
@@ -59,11 +63,11 @@ final class SignsTest {
     }
 
     private static void readTakesWhatWriteGave(Due due) {
-        CourierDesk desk = new CourierDesk();
         for (int length : new int[] {0, 1, 2, 3, 4, 5, 6, 99, 298, 299, 300}) {
             byte[] bytes = sample(length);
             for (int way = 0; way < 4; way++) {
                 boolean safe = (way & 1) != 0;
+                CourierDesk desk = new CourierDesk();
                 Desks.lay(desk, encoded(bytes, safe, (way & 2) != 0));
                 String call = length + " bytes, read(" + safe + ")";
                 due.is(call, desk.read(safe), length);
@@ -73,18 +77,16 @@ final class SignsTest {
     }
 
     private static void readKnowsEachSignAndNoOther(Due due) {
-        CourierDesk desk = new CourierDesk();
         for (int sign = 0; sign < 256; sign++) {
             byte[] text = {(byte) sign, 'A', 'A', 'A', 'B', (byte) sign};
             for (boolean safe : new boolean[] {false, true}) {
-                compareRead(due, desk, text, safe);
+                compareRead(due, text, safe);
             }
         }
     }
 
     private static void readOfAllShortTexts(Due due) {
         char[] signs = {'A', 'z', '=', '+', '_', ' '};
-        CourierDesk desk = new CourierDesk();
         for (int length = 0; length <= 6; length++) {
             int texts = (int) Math.round(Math.pow(signs.length, length));
             for (int number = 0; number < texts; number++) {
@@ -92,22 +94,22 @@ final class SignsTest {
                 for (int i = 0, rest = number; i < length; i++, rest /= signs.length) {
                     text[i] = (byte) signs[rest % signs.length];
                 }
-                compareRead(due, desk, text, number % 2 == 0);
+                compareRead(due, text, number % 2 == 0);
             }
         }
     }
 
     private static void readOfChosenTexts(Due due) {
-        CourierDesk desk = new CourierDesk();
         String[] texts = {"", "A", "AA", "AAA", "AAAA", "AA=", "AA==", "AA===", "AAA=", "AAA==", "A=", "A==", "A===",
             "=", "==", "===", "====", "AAAA=", "AAAA==", "AAAA====", "AAAAA", "AAAAA===", "AAAAAA==", "AAAAAAA=",
             "AA==AA==", "AA=A", "A=AA", "=AAA", "AAA=AAAA", "AB", "//", "__", "ABC", "/////w==", "_____w", "AA A",
             "AAAA\n", "-_+/"};
         for (String text : texts) {
             for (boolean safe : new boolean[] {false, true}) {
-                compareRead(due, desk, text.getBytes(StandardCharsets.ISO_8859_1), safe);
+                compareRead(due, text.getBytes(StandardCharsets.ISO_8859_1), safe);
             }
         }
+        CourierDesk desk = new CourierDesk();
         Desks.lay(desk, "Zm9=");
         due.is("bits behind the last byte mean nothing", desk.read(false), 2);
         Desks.outIs(due, "Zm9=", desk, "fo");
@@ -123,7 +125,8 @@ final class SignsTest {
         due.is("400 signs", desk.read(false), 300);
         Desks.outIs(due, "400 signs", desk, "\u00ff".repeat(300));
         due.is("read(true) of them", desk.read(true), Due.REFUSED);
-        Desks.outIs(due, "refused, OUT stays", desk, "\u00ff".repeat(300));
+        due.is("refused, OUT stays", desk.octet(-1), 300);
+        due.is("refused, its last byte stays", desk.octet(299), 255);
         Desks.lay(desk, full.substring(0, 397));
         due.is("397 signs", desk.read(false), Due.REFUSED);
         Desks.lay(desk, full.substring(0, 399) + "=");
@@ -136,8 +139,8 @@ final class SignsTest {
     }
 
     /** OUT holds something known before, so that a refused read that touches it is seen. */
-    private static void compareRead(Due due, CourierDesk desk, byte[] text, boolean safe) {
-        Desks.lay(desk, "stay");
+    private static void compareRead(Due due, byte[] text, boolean safe) {
+        CourierDesk desk = Desks.withTape("stay");
         desk.words(0, 0, 0, false);
         desk.word(0);
         Desks.lay(desk, text);
